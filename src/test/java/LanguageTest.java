@@ -1,0 +1,58 @@
+import java.io.IOException;
+import java.nio.file.Files;
+import java.nio.file.Path;
+import java.util.regex.Matcher;
+import java.util.regex.Pattern;
+
+/** Some rules of LANGUAGE.md that a look at the text of the class can tell. */
+public final class LanguageTest {
+    private static final String[] NEVER = {
+        "throw", "throws", "try", "catch", "finally", "synchronized", "assert", "import", "package", "protected",
+        "float", "double", "native", "volatile", "transient", "equals", "hashCode", "toString", "System\\.out",
+        "\\w+Exact", "->", "::", "String"
+    };
+    private static final int MOST_LINES = 60;
+    private static final int MOST_CLASSES = 12;
+
+    public static void main(String[] args) throws IOException {
+        Due due = new Due();
+        due.about("the language");
+        String text = Files.readString(Path.of("src/main/java/SplitBeliefs.java"));
+        String code = text.replaceAll("(?s)/\\*.*?\\*/", "").replaceAll("//[^\n]*", "");
+        for (String word : NEVER) {
+            String pattern = Character.isLetter(word.charAt(0)) ? "\\b" + word + "\\b" : word;
+            due.is("uses of " + word, Pattern.compile(pattern).matcher(code).results().count(), 0);
+        }
+        due.is("signs beyond 127", text.chars().filter(sign -> sign > 127).count(), 0);
+        due.is("few classes", Pattern.compile("\\bclass \\w").matcher(code).results().count() <= MOST_CLASSES ? 1 : 0, 1);
+        due.is("short methods", longestMethod(code) <= MOST_LINES ? 1 : 0, 1);
+        due.is("objects made in methods", madeOutsideConstructors(code), 0);
+        due.end();
+    }
+
+    private static int longestMethod(String code) {
+        int longest = 0;
+        int lines = 0;
+        for (String line : code.split("\n")) {
+            boolean starts = line.matches("( {4}| {8})\\S.*\\) \\{");
+            lines = starts ? 1 : lines + 1;
+            if (line.matches("( {4}| {8})\\}")) {
+                longest = Math.max(longest, lines);
+            }
+        }
+        return longest;
+    }
+
+    /** All objects are made with fields or in constructors: a call of a method makes none. */
+    private static int madeOutsideConstructors(String code) {
+        Matcher methods = Pattern.compile("(?ms)^( {4}| {8})[\\w ]*\\b(int|void|boolean) \\w+\\([^)]*\\) \\{$.*?^\\1\\}$")
+                .matcher(code);
+        int made = 0;
+        int seen = 0;
+        while (methods.find()) {
+            seen++;
+            made += Pattern.compile("\\bnew\\b").matcher(methods.group()).results().count();
+        }
+        return seen < 22 ? -1 : made;
+    }
+}
