@@ -13,6 +13,7 @@ public final class LanguageTest {
     };
     private static final int MOST_LINES = 60;
     private static final int MOST_CLASSES = 12;
+    private static final int FACE_METHODS = 22;
 
     public static void main(String[] args) throws IOException {
         Due due = new Due();
@@ -25,34 +26,21 @@ public final class LanguageTest {
         }
         due.is("signs beyond 127", text.chars().filter(sign -> sign > 127).count(), 0);
         due.is("few classes", Pattern.compile("\\bclass \\w").matcher(code).results().count() <= MOST_CLASSES ? 1 : 0, 1);
-        due.is("short methods", longestMethod(code) <= MOST_LINES ? 1 : 0, 1);
-        due.is("objects made in methods", madeOutsideConstructors(code), 0);
+        lookAtMethods(code, due);
         due.end();
     }
 
-    private static int longestMethod(String code) {
-        int longest = 0;
-        int lines = 0;
-        for (String line : code.split("\n")) {
-            boolean starts = line.matches("( {4}| {8})\\S.*\\) \\{");
-            lines = starts ? 1 : lines + 1;
-            if (line.matches("( {4}| {8})\\}")) {
-                longest = Math.max(longest, lines);
-            }
-        }
-        return longest;
-    }
-
     /** All objects are made with fields or in constructors: a call of a method makes none. */
-    private static int madeOutsideConstructors(String code) {
-        Matcher methods = Pattern.compile("(?ms)^( {4}| {8})[\\w ]*\\b(int|void|boolean) \\w+\\([^)]*\\) \\{$.*?^\\1\\}$")
+    private static void lookAtMethods(String code, Due due) {
+        Matcher methods = Pattern.compile("(?ms)^( {4}| {8})(?! )[\\w ]*\\b(int|void|boolean) (\\w+)\\([^)]*\\) \\{$.*?^\\1\\}$")
                 .matcher(code);
-        int made = 0;
         int seen = 0;
         while (methods.find()) {
             seen++;
-            made += Pattern.compile("\\bnew\\b").matcher(methods.group()).results().count();
+            String method = methods.group(3);
+            due.is("objects made in " + method, Pattern.compile("\\bnew\\b").matcher(methods.group()).results().count(), 0);
+            due.is("lines above 60 of " + method, Math.max(MOST_LINES, methods.group().lines().count()), MOST_LINES);
         }
-        return seen < 22 ? -1 : made;
+        due.is("all methods of the face seen", seen >= FACE_METHODS ? 1 : 0, 1);
     }
 }
