@@ -301,7 +301,8 @@ public final class SplitBeliefs {
     }
 
     private int takeBest() {
-        aimAt(now.prior);
+        curve.draw(now.receivers);
+        curve.aim(now.prior);
         mix.clear();
         mix.add(curve.lower, curve.lowerWeight);
         mix.add(curve.upper, curve.upperWeight);
@@ -468,16 +469,12 @@ public final class SplitBeliefs {
             return number;
         }
 
-        int advantageAt(int receiver, int posterior) {
-            return posterior * gains[receiver] - (WHOLE - posterior) * losses[receiver];
-        }
-
         boolean acts(int receiver, int posterior) {
-            return advantageAt(receiver, posterior) >= 0;
+            return posterior * gains[receiver] >= (WHOLE - posterior) * losses[receiver];
         }
 
         int worthAt(int receiver, int posterior) {
-            return Math.max(0, advantageAt(receiver, posterior));
+            return Math.max(0, posterior * gains[receiver] - (WHOLE - posterior) * losses[receiver]);
         }
 
         int leastActing(int receiver) {
@@ -770,8 +767,9 @@ public final class SplitBeliefs {
     /** The text, and a reader of its orders that stops where it cannot go on. */
     private static final class Pad {
         static final int ROOM = 80;
-        static final int BYTES = 8;
-        static final int BYTE_MASK = 255;
+        static final int MOST_PUT = 8;
+        static final int SIGN_BITS = 8;
+        static final int SIGN_MASK = 255;
         static final int FIRST_SIGN = 33;
         static final int LAST_SIGN = 126;
         static final int MOST_NUMBER = 999;
@@ -787,12 +785,12 @@ public final class SplitBeliefs {
         int append(long characters) {
             long rest = characters;
             int more = 0;
-            while (more < BYTES && (rest & BYTE_MASK) != 0) {
-                int code = (int) (rest & BYTE_MASK);
+            while (more < MOST_PUT && (rest & SIGN_MASK) != 0) {
+                int code = (int) (rest & SIGN_MASK);
                 if (code < FIRST_SIGN || code > LAST_SIGN) {
                     return BAD_VALUE;
                 }
-                rest >>>= BYTES;
+                rest >>>= SIGN_BITS;
                 more++;
             }
             if (more == 0 || rest != 0) {
@@ -802,7 +800,7 @@ public final class SplitBeliefs {
                 return TOO_MANY;
             }
             for (int back = 0; back < more; back++) {
-                signs[length + more - 1 - back] = (char) ((characters >>> (BYTES * back)) & BYTE_MASK);
+                signs[length + more - 1 - back] = (char) ((characters >>> (SIGN_BITS * back)) & SIGN_MASK);
             }
             length += more;
             return length;

@@ -214,6 +214,9 @@ public final class PromiseTest {
         due.is("two that are there", x.refine(2, 20, 80), 5);
         split(5, 20, 6, 30, 4, 60, 4, 70, 5, 80);
         due.is("six parts", x.refine(1, 29, 31), 6);
+        becomes(50, "s1@0,1@30,1@40,1@60,1@70,1@100");
+        due.is("seven parts", x.refine(2, 39, 41), -4);
+        split(1, 0, 1, 30, 1, 40, 1, 60, 1, 70, 1, 100);
         becomes(50, "s999@0,999@100");
         split(1, 0, 1, 100);
         becomes(50, "s998@0,4@50,998@100");
@@ -251,6 +254,18 @@ public final class PromiseTest {
         due.is("join(0) is not whole", x.join(0), -5);
         due.is("join(3) is not whole", x.join(3), -5);
         due.is("join(2) at 59", x.join(2), 4);
+        split(1, 10, 3, 20, 10, 59, 1, 90);
+        x.save(0);
+        x.prior(40);
+        x.refine(0, 39, 41);
+        x.restore(0);
+        due.is("join(0) is not whole", x.join(0), -5);
+        due.is("refine(2, 29, 89) of what was restored", x.refine(2, 29, 89), 5);
+        split(1, 10, 3, 20, 5, 29, 5, 89, 1, 90);
+        x.prior(40);
+        x.undo();
+        due.is("join(1) is not whole", x.join(1), -5);
+        due.is("join(2) of what was undone", x.join(2), 4);
         split(1, 10, 3, 20, 10, 59, 1, 90);
     }
 
@@ -497,9 +512,26 @@ public final class PromiseTest {
         x.hire(1, 3, 10, 0);
         envelopeIs(24, 48, 5);
         envelopeIs(26, 52, 5);
+        x.dismiss(1);
+        x.dismiss(0);
+        x.dismiss(0);
+        x.hire(1, 1, 1, 0);
+        envelopeIs(30, 3, 5);
+        envelopeIs(50, 1, 1);
+        envelopeIs(51, 1, 1);
+        x.dismiss(0);
+        x.hire(1, 3, 20, 0);
+        x.hire(3, 1, 10, 0);
+        envelopeIs(26, 101, 5);
+        envelopeIs(50, 25, 1);
+        envelopeIs(74, 149, 5);
+        x.dismiss(0);
+        x.dismiss(0);
+        x.hire(1, 1, 10, 0);
+        x.hire(1, 3, 10, 0);
         x.prior(26);
         x.refine(0, 0, 100);
-        due.is("it is of the posterior, not of the split", x.envelope(26, 0), 10000052);
+        due.is("it is of the posterior, not of the split", x.envelope(26, 0), 10000000 + 52);
         for (int wrong : new int[] {-1, 101, LEAST, MOST}) {
             due.is("envelope(" + wrong + ", 0)", x.envelope(wrong, 0), -2);
             due.is("envelope(0, " + wrong + ")", x.envelope(0, wrong), -2);
@@ -535,6 +567,21 @@ public final class PromiseTest {
         bestIs(98, 98, 98, 1, 0);
         bestIs(99, 98, 100, 1, 1);
         bestIs(100, 100, 100, 1, 0);
+        begin("promise 15, best between two corners");
+        x.hire(1, 3, 20, 0);
+        x.hire(3, 1, 10, 0);
+        bestIs(30, 25, 75, 9, 1);
+        bestIs(35, 25, 75, 4, 1);
+        bestIs(45, 25, 75, 3, 2);
+        bestIs(60, 25, 75, 3, 7);
+        bestIs(25, 25, 25, 1, 0);
+        bestIs(80, 75, 81, 1, 5);
+        begin("promise 15, best above a point that lies below the line");
+        x.hire(1, 3, 20, 0);
+        x.hire(1, 1, 10, 0);
+        x.hire(3, 1, 11, 0);
+        bestIs(50, 25, 75, 1, 1);
+        envelopeIs(50, 61, 2);
         for (int wrong : new int[] {-1, 101, LEAST, MOST}) {
             due.is("best(" + wrong + ", 0)", x.best(wrong, 0), -2);
             due.is("best(0, " + wrong + ")", x.best(0, wrong), -2);
@@ -563,6 +610,9 @@ public final class PromiseTest {
         x.dismiss(0);
         x.hire(1, 99, 50, 0);
         mostGainedIs(1, 0, 1);
+        x.dismiss(0);
+        x.hire(1, 98, 50, 0);
+        mostGainedIs(1, 25, 1);
         for (int wrong : new int[] {-1, 3, LEAST, MOST}) {
             due.is("mostGained(" + wrong + ")", x.mostGained(wrong), -2);
         }
@@ -690,7 +740,8 @@ public final class PromiseTest {
     private void carryOutErrors() {
         begin("promise 20, carryOut, orders that fail");
         String[] wrong = {"-0", "p0", "p100", "p999", "r0,1$1", "r100,1$1", "r1,0$1", "r1,100$1", "r1,1$100", "r1,1$1!100",
-            "r1,1$1!-100", "s0@30", "s1@101", "s1@30,0@30", "s1@31", "s1@29", "s999@29,998@31"};
+            "r1,1$1!-100", "s0@30", "s1@101", "s1@30,0@30", "s1@31", "s1@29", "s999@29,998@31",
+            "s999@31,999@31", "s1@0", "s1@100", "s3@0,1@100"};
         for (String text : wrong) {
             carriesOut(text, 0);
             carriesOut(text + ";p40", 0);
@@ -769,43 +820,41 @@ public final class PromiseTest {
     }
 
     private void undoEachChange() {
+        undone(beginUndo(), "prior(60)", x.prior(60), 50);
+        undone(beginUndo(), "prior(50)", x.prior(50), 50);
+        undone(beginUndo(), "hire(9, 9, 9, 9)", x.hire(9, 9, 9, 9), 2);
+        undone(beginUndo(), "dismiss(0)", x.dismiss(0), 1);
+        undone(beginUndo(), "refine(0, 0, 50)", x.refine(0, 0, 50), 5);
+        undone(beginUndo(), "refine(0, 25, 25)", x.refine(0, 25, 25), 4);
+        undone(beginUndo(), "join(1)", x.join(1), 3);
+        undone(beginUndo(), "adopt()", x.adopt(), 1);
+        undone(beginUndo(), "restore(0)", x.restore(0), 50);
+        undone(beginUndo(), "carryOut()", Due.putAll(x, "p60;-0;-0;r1,1$1;s1@59,1@61") + x.carryOut(), 27 + 5);
+        undone(beginUndo(), "carryOut()", Due.putAll(x, "p60;p0") + x.carryOut(), 6 + 1);
+        undone(beginUndo(), "carryOut()", Due.putAll(x, "p0;p60") + x.carryOut(), 6 + 0);
+    }
+
+    /** The rows of a history that was used before could hold the right state by chance: so it is a new one. */
+    private int beginUndo() {
         begin("promise 21, undo of each change");
         x.hire(1, 1, 10, 5);
         x.hire(2, 3, 4, -5);
         x.prior(50);
         carriesOut("s1@25,1@49,1@51,1@75", 1);
         x.save(0);
-        int[] done = {x.prior(60), undone(), x.prior(50), undone(), x.hire(9, 9, 9, 9), undone(), x.dismiss(0), undone(),
-            x.refine(0, 0, 50), undone(), x.refine(0, 25, 25), undone(), x.join(1), undone(), x.adopt(), undone(),
-            x.restore(0), undone()};
-        int[] want = {50, 4, 50, 4, 2, 4, 1, 4, 5, 4, 4, 4, 3, 4, 1, 4, 50, 4};
-        for (int i = 0; i < done.length; i++) {
-            due.is("answer " + i, done[i], want[i]);
-        }
-        carriesOut("p60;-0;-0;r1,1$1;s1@59,1@61", 5);
-        due.is("undo()", undone(), 4);
-        carriesOut("p0", 0);
-        due.is("undo()", undone(), 4);
-        x.undo();
-        split(1, 50);
-        x.undo();
-        due.is("count(0)", x.count(0), 30);
-        x.undo();
-        due.is("count(1)", x.count(1), 1);
-        due.is("undo()", x.undo(), 0);
-        due.is("count(1)", x.count(1), 0);
+        return x.count(6);
     }
 
     /** Undoes the change that was just made, and looks whether all is as it was before it. */
-    private int undone() {
-        due.is("count(6)", x.count(6), 5);
-        int left = x.undo();
+    private void undone(int kept, String call, int got, int want) {
+        due.is(call, got, want);
+        due.is("count(6) after " + call, x.count(6), kept + 1);
+        due.is("undo() of " + call, x.undo(), kept);
         split(1, 25, 1, 49, 1, 51, 1, 75);
-        threeReceiverNumbers();
-        return left;
+        receiversOfUndo();
     }
 
-    private void threeReceiverNumbers() {
+    private void receiversOfUndo() {
         due.is("count(0)", x.count(0), 50);
         due.is("count(1)", x.count(1), 2);
         int[][] want = {{1, 1, 10, 105, 50}, {2, 3, 4, 95, 40}};
@@ -834,7 +883,7 @@ public final class PromiseTest {
         x.prior(70);
         due.is("restore(0)", x.restore(0), 50);
         split(1, 25, 1, 49, 1, 51, 1, 75);
-        threeReceiverNumbers();
+        receiversOfUndo();
         due.is("restore(1)", x.restore(1), 60);
         split(1, 60);
         x.prior(80);
