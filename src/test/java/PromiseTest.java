@@ -263,6 +263,8 @@ public final class PromiseTest {
         due.is("refine(2, 29, 89) of what was restored", x.refine(2, 29, 89), 5);
         split(1, 10, 3, 20, 5, 29, 5, 89, 1, 90);
         x.prior(40);
+        x.refine(0, 39, 41);
+        x.undo();
         x.undo();
         due.is("join(1) is not whole", x.join(1), -5);
         due.is("join(2) of what was undone", x.join(2), 4);
