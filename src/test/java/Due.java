@@ -26,22 +26,4 @@ final class Due {
             System.exit(1);
         }
     }
-
-    /** The number by which put() takes the text (1 to 8 characters). */
-    static long packed(String text) {
-        long characters = 0;
-        for (int i = 0; i < text.length(); i++) {
-            characters = characters << 8 | text.charAt(i);
-        }
-        return characters;
-    }
-
-    /** Puts a text of any length, and returns the last answer. */
-    static int putAll(SplitBeliefs x, String text) {
-        int answer = 0;
-        for (int from = 0; from < text.length(); from += 8) {
-            answer = x.put(packed(text.substring(from, Math.min(from + 8, text.length()))));
-        }
-        return answer;
-    }
 }

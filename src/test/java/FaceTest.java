@@ -49,7 +49,18 @@ public final class FaceTest {
         due.is("public classes inside", SplitBeliefs.class.getClasses().length, 0);
         for (Class<?> inside : SplitBeliefs.class.getDeclaredClasses()) {
             due.is(inside + " is static", Modifier.isStatic(inside.getModifiers()) ? 1 : 0, 1);
+            due.is("private names of public methods in " + inside, privateNamesOf(inside, publicNames), 0);
         }
         due.end();
+    }
+
+    private static int privateNamesOf(Class<?> inside, Set<String> publicNames) {
+        int found = 0;
+        for (Method method : inside.getDeclaredMethods()) {
+            if (Modifier.isPrivate(method.getModifiers()) && publicNames.contains(method.getName())) {
+                found++;
+            }
+        }
+        return found;
     }
 }

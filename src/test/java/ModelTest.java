@@ -1,12 +1,12 @@
 /** Long runs of calls, each with the answer of the model; the same runs every time. */
 public final class ModelTest {
-    private static final int RUNS = 100;
-    private static final int CALLS = 512;
+    private static final int RUNS = 800;
+    private static final int MOST_AT_ONCE = 64;
     private static final int[] WILD = {Integer.MIN_VALUE, -100, -99, -1, 0, 1, 2, 5, 6, 99, 100, 101, Integer.MAX_VALUE};
 
     private final Due due = new Due();
     private long seed;
-    private SplitBeliefs x;
+    private Used x;
     private Model model;
 
     public static void main(String[] args) {
@@ -19,10 +19,10 @@ public final class ModelTest {
 
     private void run(int run) {
         seed = 7919L * run + 1;
-        x = new SplitBeliefs();
+        x = new Used();
         model = new Model();
-        for (int call = 0; call < CALLS && due.allRight(); call++) {
-            due.about("run " + run + ", call " + call);
+        while (x.calls() < Used.MOST_CALLS - MOST_AT_ONCE && due.allRight()) {
+            due.about("run " + run + ", after " + x.calls() + " calls");
             callOne(run % 3);
         }
     }
@@ -149,7 +149,7 @@ public final class ModelTest {
         String text = someText();
         for (int from = 0; from < text.length(); ) {
             int to = Math.min(text.length(), from + 1 + below(8));
-            long characters = Due.packed(text.substring(from, to));
+            long characters = Used.packed(text.substring(from, to));
             due.is("put(" + characters + ")", x.put(characters), model.put(characters));
             from = to;
         }

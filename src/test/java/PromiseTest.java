@@ -4,7 +4,7 @@ public final class PromiseTest {
     private static final int MOST = Integer.MAX_VALUE;
 
     private final Due due = new Due();
-    private SplitBeliefs x;
+    private Used x;
 
     public static void main(String[] args) {
         PromiseTest test = new PromiseTest();
@@ -41,7 +41,7 @@ public final class PromiseTest {
 
     private void begin(String promise) {
         due.about(promise);
-        x = new SplitBeliefs();
+        x = new Used();
     }
 
     /** The split, told by weights and posteriors in turn. */
@@ -63,13 +63,13 @@ public final class PromiseTest {
     }
 
     private void carriesOut(String text, int orders) {
-        due.is("put " + text, Due.putAll(x, text), text.length());
+        due.is("put " + text, x.putAll(text), text.length());
         due.is("carryOut() of " + text, x.carryOut(), orders);
     }
 
     private void faultOf(String text, int want) {
-        x.wipe();
-        Due.putAll(x, text);
+        x = new Used();
+        x.putAll(text);
         due.is("fault() of " + text, x.fault(), want);
         due.is("count(5) of " + text, x.count(5), text.length());
     }
@@ -87,7 +87,7 @@ public final class PromiseTest {
         due.is("restore(1)", x.restore(1), -5);
         due.is("fault()", x.fault(), 0);
         due.is("value(100)", x.value(100), 1000);
-        SplitBeliefs y = new SplitBeliefs();
+        Used y = new Used();
         x.prior(77);
         x.hire(1, 2, 3, 4);
         due.is("count(0) of another one", y.count(0), 30);
@@ -479,7 +479,7 @@ public final class PromiseTest {
         for (int what = 0; what < 7; what++) {
             due.is("count(" + what + ")", x.count(what), want[what]);
         }
-        x.put(Due.packed("r1"));
+        x.put(Used.packed("r1"));
         due.is("count(5)", x.count(5), 2);
         x.prior(20);
         due.is("count(4)", x.count(4), 0);
@@ -630,23 +630,23 @@ public final class PromiseTest {
     private void put() {
         begin("promise 17, put");
         long[] wrong = {0, -1, 32, 127, 128, 255, Long.MIN_VALUE, Long.MAX_VALUE, 'b' << 8, 'b' << 16 | 'b', 1L << 63 | 'b',
-            'b' | 1L << 8, 'b' << 8 | 32, (long) 'b' << 56, Due.packed("bbbbbbb") | 127L << 56, Due.packed("bbbbbbb") << 8};
+            'b' | 1L << 8, 'b' << 8 | 32, (long) 'b' << 56, Used.packed("bbbbbbb") | 127L << 56, Used.packed("bbbbbbb") << 8};
         for (long characters : wrong) {
             due.is("put(" + characters + ")", x.put(characters), -2);
         }
         due.is("count(5)", x.count(5), 0);
         due.is("put of 33", x.put(33), 1);
         due.is("put of 126", x.put(126), 2);
-        due.is("put of 8", x.put(Due.packed("12345678")), 10);
-        due.is("put of 7", x.put(Due.packed("1234567")), 17);
+        due.is("put of 8", x.put(Used.packed("12345678")), 10);
+        due.is("put of 7", x.put(Used.packed("1234567")), 17);
         due.is("fault()", x.fault(), 0);
         x.wipe();
         for (int i = 1; i <= 9; i++) {
-            due.is("put of 8", x.put(Due.packed("p10;p20;")), 8 * i);
+            due.is("put of 8", x.put(Used.packed("p10;p20;")), 8 * i);
         }
-        due.is("put of 7", x.put(Due.packed("p30;p40")), 79);
-        due.is("put of 2", x.put(Due.packed(";b")), -4);
-        due.is("put of 8", x.put(Due.packed(";;;;;;;;")), -4);
+        due.is("put of 7", x.put(Used.packed("p30;p40")), 79);
+        due.is("put of 2", x.put(Used.packed(";b")), -4);
+        due.is("put of 8", x.put(Used.packed(";;;;;;;;")), -4);
         due.is("put of 2, one of them wrong", x.put(' ' << 8 | 'b'), -2);
         due.is("count(5)", x.count(5), 79);
         due.is("put of 1", x.put(';'), 80);
@@ -655,8 +655,8 @@ public final class PromiseTest {
         due.is("fault()", x.fault(), 80);
         due.is("count(6)", x.count(6), 0);
         x.wipe();
-        due.is("put in order", x.put(Due.packed("p31")), 3);
-        due.is("put in order", x.put(Due.packed(";-0")), 6);
+        due.is("put in order", x.put(Used.packed("p31")), 3);
+        due.is("put in order", x.put(Used.packed(";-0")), 6);
         due.is("carryOut()", x.carryOut(), 1);
         due.is("count(0)", x.count(0), 31);
     }
@@ -664,13 +664,13 @@ public final class PromiseTest {
     private void wipe() {
         begin("promise 18, wipe");
         due.is("wipe() of none", x.wipe(), 0);
-        Due.putAll(x, "p40;p50");
+        x.putAll("p40;p50");
         due.is("wipe()", x.wipe(), 7);
         due.is("count(5)", x.count(5), 0);
         due.is("wipe() again", x.wipe(), 0);
         due.is("fault()", x.fault(), 0);
         due.is("count(6)", x.count(6), 0);
-        due.is("put", Due.putAll(x, "p60"), 3);
+        due.is("put", x.putAll("p60"), 3);
         due.is("carryOut()", x.carryOut(), 1);
         due.is("count(0)", x.count(0), 60);
     }
@@ -698,14 +698,14 @@ public final class PromiseTest {
             faultOf(text, text.length() - 1);
             faultOf(text + "b", text.length() - 1);
             faultOf(text + ";b", text.length() - 1);
+            due.is("count(6)", x.count(6), 0);
         }
-        due.is("count(6)", x.count(6), 0);
     }
 
     private void carryOut() {
         begin("promise 20, carryOut");
         due.is("carryOut() of no text", x.carryOut(), -3);
-        Due.putAll(x, "p40;p50;");
+        x.putAll("p40;p50;");
         due.is("carryOut() of a fault", x.carryOut(), -3);
         due.is("count(5)", x.count(5), 8);
         due.is("count(0)", x.count(0), 30);
@@ -745,6 +745,7 @@ public final class PromiseTest {
             "r1,1$1!-100", "s0@30", "s1@101", "s1@30,0@30", "s1@31", "s1@29", "s999@29,998@31",
             "s999@31,999@31", "s1@0", "s1@100", "s3@0,1@100"};
         for (String text : wrong) {
+            x = new Used();
             carriesOut(text, 0);
             carriesOut(text + ";p40", 0);
             due.is("count(0)", x.count(0), 30);
@@ -753,8 +754,8 @@ public final class PromiseTest {
             due.is("count(5)", x.count(5), 0);
             carriesOut("p30;" + text + ";p40;p41", 1);
             due.is("count(0)", x.count(0), 30);
+            due.is("each is a change", x.count(6), 3);
         }
-        due.is("each is a change", x.count(6), 6);
         carriesOut("r1,1$1;r1,1$1;r1,1$1;r1,1$1;r1,1$1;r1,1$1;p1", 5);
         due.is("count(1)", x.count(1), 5);
         carriesOut("-1;-4;p1", 1);
@@ -796,7 +797,7 @@ public final class PromiseTest {
         x.join(0);
         x.restore(0);
         x.carryOut();
-        Due.putAll(x, "p4");
+        x.putAll("p4");
         due.is("save(1)", x.save(1), 37);
         for (int i = 5; i >= 0; i--) {
             due.is("undo()", x.undo(), i);
@@ -831,9 +832,9 @@ public final class PromiseTest {
         undone(beginUndo(), "join(1)", x.join(1), 3);
         undone(beginUndo(), "adopt()", x.adopt(), 1);
         undone(beginUndo(), "restore(0)", x.restore(0), 50);
-        undone(beginUndo(), "carryOut()", Due.putAll(x, "p60;-0;-0;r1,1$1;s1@59,1@61") + x.carryOut(), 27 + 5);
-        undone(beginUndo(), "carryOut()", Due.putAll(x, "p60;p0") + x.carryOut(), 6 + 1);
-        undone(beginUndo(), "carryOut()", Due.putAll(x, "p0;p60") + x.carryOut(), 6 + 0);
+        undone(beginUndo(), "carryOut()", x.putAll("p60;-0;-0;r1,1$1;s1@59,1@61") + x.carryOut(), 27 + 5);
+        undone(beginUndo(), "carryOut()", x.putAll("p60;p0") + x.carryOut(), 6 + 1);
+        undone(beginUndo(), "carryOut()", x.putAll("p0;p60") + x.carryOut(), 6 + 0);
     }
 
     /** The rows of a history that was used before could hold the right state by chance: so it is a new one. */
@@ -904,7 +905,7 @@ public final class PromiseTest {
         x.save(1);
         due.is("restore(0)", x.restore(0), -5);
         x.prior(40);
-        Due.putAll(x, "p41");
+        x.putAll("p41");
         due.is("restore(1)", x.restore(1), 30);
         due.is("count(0)", x.count(0), 30);
         due.is("the pad stays", x.count(5), 3);
