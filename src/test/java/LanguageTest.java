@@ -1,4 +1,7 @@
 import java.io.IOException;
+import java.lang.reflect.Field;
+import java.lang.reflect.Method;
+import java.lang.reflect.Modifier;
 import java.nio.file.Files;
 import java.nio.file.Path;
 import java.util.regex.Matcher;
@@ -13,6 +16,8 @@ public final class LanguageTest {
     };
     private static final int MOST_LINES = 60;
     private static final int MOST_CLASSES = 12;
+    private static final int MOST_FIELDS = 20;
+    private static final int MOST_PARAMETERS = 7;
     private static final int FACE_METHODS = 22;
 
     public static void main(String[] args) throws IOException {
@@ -27,7 +32,24 @@ public final class LanguageTest {
         due.is("signs beyond 127", text.chars().filter(sign -> sign > 127).count(), 0);
         due.is("few classes", Pattern.compile("\\bclass \\w").matcher(code).results().count() <= MOST_CLASSES ? 1 : 0, 1);
         lookAtMethods(code, due);
+        lookAtMembers(SplitBeliefs.class, due);
+        for (Class<?> inside : SplitBeliefs.class.getDeclaredClasses()) {
+            lookAtMembers(inside, due);
+        }
         due.end();
+    }
+
+    private static void lookAtMembers(Class<?> looked, Due due) {
+        int fields = 0;
+        for (Field field : looked.getDeclaredFields()) {
+            boolean isStatic = Modifier.isStatic(field.getModifiers());
+            fields += isStatic ? 0 : 1;
+            due.is("static and not final: " + field, isStatic && !Modifier.isFinal(field.getModifiers()) ? 1 : 0, 0);
+        }
+        due.is("fields above 20 of " + looked, Math.max(MOST_FIELDS, fields), MOST_FIELDS);
+        for (Method method : looked.getDeclaredMethods()) {
+            due.is("parameters above 7 of " + method, Math.max(MOST_PARAMETERS, method.getParameterCount()), MOST_PARAMETERS);
+        }
     }
 
     /** All objects are made with fields or in constructors: a call of a method makes none. */
